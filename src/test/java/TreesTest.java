@@ -1,0 +1,220 @@
+/** Promises 13 to 17, and how trees of quarters and packed trees are built. */
+public final class TreesTest {
+    private static CairnIndex points(int cap) {
+        CairnIndex index = new CairnIndex();
+        index.addLayer(true);
+        index.setSize(0, cap);
+        return index;
+    }
+
+    private static CairnIndex boxes(int fan, int[][] places) {
+        CairnIndex index = new CairnIndex();
+        index.addLayer(false);
+        index.setSize(0, fan);
+        for (int[] place : places) {
+            index.addBox(0, place[0], place[1], place[2], place[3], 0);
+        }
+        index.pack(0);
+        return index;
+    }
+
+    private static void dueLeaf(CairnIndex index, int x, int y, int... due) {
+        for (int what = 0; what <= 4; what++) {
+            Checks.due("leaf(0, " + x + ", " + y + ", " + what + ")", due[what], index.leaf(0, x, y, what));
+        }
+    }
+
+    private static void dueNode(CairnIndex index, int level, int node, int... due) {
+        for (int what = 0; what <= 4; what++) {
+            String call = "node(0, " + level + ", " + node + ", " + what + ")";
+            Checks.due(call, due[what], index.node(0, level, node, what));
+        }
+    }
+
+    private static void dueTree(CairnIndex index, int nodes, int depth) {
+        Checks.due("nodes", nodes, index.nodes(0));
+        Checks.due("depth", depth, index.depth(0));
+    }
+
+    private static void quarters() {
+        CairnIndex index = points(4);
+        dueTree(index, 1, 1);
+        dueLeaf(index, 1023, 0, 0, 0, 1024, 0, 0);
+        index.addPoint(0, 0, 0, 0);
+        index.addPoint(0, 600, 0, 0);
+        index.addPoint(0, 0, 600, 0);
+        index.addPoint(0, 600, 600, 0);
+        dueTree(index, 1, 1);
+        dueLeaf(index, 700, 700, 0, 0, 1024, 4, 0);
+        index.addPoint(0, 601, 601, 0);
+        dueTree(index, 5, 2);
+        dueLeaf(index, 511, 511, 0, 0, 512, 1, 1);
+        dueLeaf(index, 512, 511, 512, 0, 512, 1, 1);
+        dueLeaf(index, 511, 512, 0, 512, 512, 1, 1);
+        dueLeaf(index, 512, 512, 512, 512, 512, 2, 1);
+        index.move(0, 1023, 1023);
+        dueLeaf(index, 0, 0, 0, 0, 512, 0, 1);
+        dueLeaf(index, 1023, 1023, 512, 512, 512, 3, 1);
+        index.remove(4);
+        dueTree(index, 1, 1);
+        Checks.noLayer(index, "nodes(1)", () -> index.nodes(1));
+        Checks.noLayer(index, "depth(1)", () -> index.depth(1));
+        Checks.noLayer(index, "depth(-1)", () -> index.depth(-1));
+    }
+
+    private static void smallestSquares() {
+        CairnIndex index = points(4);
+        index.addRow(0, 5, 5, 0, 0, 5);
+        dueTree(index, 41, 11);
+        dueLeaf(index, 5, 5, 5, 5, 1, 5, 10);
+        dueLeaf(index, 4, 5, 4, 5, 1, 0, 10);
+        dueLeaf(index, 6, 5, 6, 4, 2, 0, 9);
+        dueLeaf(index, 1000, 1000, 512, 512, 512, 0, 1);
+
+        CairnIndex borders = points(1);
+        borders.addPoint(0, 511, 511, 0);
+        borders.addPoint(0, 512, 511, 0);
+        borders.addPoint(0, 511, 512, 0);
+        borders.addPoint(0, 512, 512, 0);
+        dueTree(borders, 5, 2);
+        borders.addPoint(0, 510, 511, 0);
+        dueTree(borders, 41, 11);
+        dueLeaf(borders, 511, 511, 511, 511, 1, 1, 10);
+    }
+
+    private static void wrongLeaf() {
+        CairnIndex index = points(4);
+        index.addLayer(false);
+        Checks.noLayer(index, "leaf of no layer, first", () -> index.leaf(2, -1, 0, 9));
+        Checks.badArgument(index, "leaf of boxes", () -> index.leaf(1, 0, 0, 0));
+        Checks.badArgument(index, "x -1", () -> index.leaf(0, -1, 0, 0));
+        Checks.badArgument(index, "x 1024", () -> index.leaf(0, 1024, 0, 0));
+        Checks.badArgument(index, "y -1", () -> index.leaf(0, 0, -1, 0));
+        Checks.badArgument(index, "y 1024", () -> index.leaf(0, 0, 1024, 0));
+        Checks.badArgument(index, "what -1", () -> index.leaf(0, 0, 0, -1));
+        Checks.badArgument(index, "what 5", () -> index.leaf(0, 0, 0, 5));
+    }
+
+    private static void packedTree() {
+        int[][] five = {{10, 90, 0, 0}, {20, 10, 0, 0}, {30, 50, 0, 0}, {40, 30, 0, 0}, {50, 0, 0, 0}};
+        CairnIndex index = boxes(2, five);
+        dueTree(index, 6, 3);
+        Checks.due("leaves", 3, index.level(0, 0));
+        Checks.due("above them", 2, index.level(0, 1));
+        Checks.due("the root", 1, index.level(0, 2));
+        Checks.due("above the root", 0, index.level(0, 3));
+        Checks.due("far above", 0, index.level(0, Integer.MAX_VALUE));
+        dueNode(index, 0, 0, 20, 10, 20, 20, 2);
+        dueNode(index, 0, 1, 10, 50, 20, 40, 2);
+        dueNode(index, 0, 2, 50, 0, 0, 0, 1);
+        dueNode(index, 1, 0, 20, 0, 30, 30, 2);
+        dueNode(index, 1, 1, 10, 50, 20, 40, 1);
+        dueNode(index, 2, 0, 10, 0, 40, 90, 2);
+        index.move(2, 500, 500);
+        index.remove(0);
+        dueNode(index, 0, 1, 10, 50, 20, 40, 0);
+        dueNode(index, 1, 1, 10, 50, 20, 40, 1);
+        dueTree(index, 6, 3);
+        index.addBox(0, 900, 900, 9, 9, 0);
+        dueTree(index, 6, 3);
+        index.pack(0);
+        dueTree(index, 6, 3);
+        dueNode(index, 2, 0, 20, 0, 889, 909, 2);
+    }
+
+    private static void middlesAndTies() {
+        // The same x: the smaller numbers make the first slice, and y puts them in order.
+        CairnIndex column = boxes(2, new int[][] {{7, 50, 0, 0}, {7, 40, 0, 0}, {7, 30, 0, 0}, {7, 20, 0, 0}, {7, 10, 0, 0}});
+        dueNode(column, 0, 0, 7, 20, 0, 10, 2);
+        dueNode(column, 0, 1, 7, 40, 0, 10, 2);
+        dueNode(column, 0, 2, 7, 10, 0, 0, 1);
+        // The same y: of one slice, the smaller numbers make the first leaf.
+        CairnIndex line = boxes(2, new int[][] {{30, 5, 0, 0}, {20, 5, 0, 0}, {10, 5, 0, 0}});
+        dueNode(line, 0, 0, 20, 5, 10, 0, 2);
+        dueNode(line, 0, 1, 10, 5, 0, 0, 1);
+        // Middles, not edges: box 0 begins first, but its middle is behind the one of box 1.
+        CairnIndex wide = boxes(2, new int[][] {{0, 0, 0, 101}, {0, 40, 0, 20}, {0, 51, 0, 0}});
+        dueNode(wide, 0, 0, 0, 0, 0, 101, 2);
+        dueNode(wide, 0, 1, 0, 51, 0, 0, 1);
+        // Leaves whose middles are the same stay in their order on the next level.
+        int[][] cross = {{40, 0, 20, 100}, {45, 10, 10, 80}, {0, 40, 100, 20}, {10, 45, 80, 10}, {50, 50, 0, 0}, {49, 49, 2, 2}};
+        CairnIndex ties = boxes(2, cross);
+        dueNode(ties, 0, 0, 40, 0, 20, 100, 2);
+        dueNode(ties, 0, 1, 0, 40, 100, 20, 2);
+        dueNode(ties, 0, 2, 49, 49, 2, 2, 2);
+        dueNode(ties, 1, 0, 0, 0, 100, 100, 2);
+        dueNode(ties, 1, 1, 49, 49, 2, 2, 1);
+    }
+
+    private static void wrongNodes() {
+        CairnIndex index = boxes(4, new int[][] {{1, 2, 3, 4}});
+        index.addLayer(true);
+        index.addLayer(false);
+        Checks.due("a layer that was never packed", 0, index.level(2, 0));
+        Checks.due("its nodes", 0, index.nodes(2));
+        Checks.due("its depth", 0, index.depth(2));
+        dueNode(index, 0, 0, 1, 2, 3, 4, 1);
+        Checks.noLayer(index, "level of no layer, first", () -> index.level(3, -1));
+        Checks.badArgument(index, "level of points", () -> index.level(1, 0));
+        Checks.badArgument(index, "level -1", () -> index.level(0, -1));
+        Checks.noLayer(index, "node of no layer, first", () -> index.node(3, 0, 0, 9));
+        Checks.noLayer(index, "no such node, ahead of what", () -> index.node(0, 0, 1, 9));
+        Checks.noLayer(index, "node -1", () -> index.node(0, 0, -1, 0));
+        Checks.noLayer(index, "level 1", () -> index.node(0, 1, 0, 0));
+        Checks.noLayer(index, "level -1", () -> index.node(0, -1, 0, 0));
+        Checks.noLayer(index, "without nodes", () -> index.node(2, 0, 0, 0));
+        Checks.badArgument(index, "a layer of points", () -> index.node(1, 7, 7, 0));
+        Checks.badArgument(index, "what 5", () -> index.node(0, 0, 0, 5));
+        Checks.badArgument(index, "what -1", () -> index.node(0, 0, 0, -1));
+    }
+
+    /** Packs 1 to 80 boxes with each FAN, and compares each node with the plain one. */
+    private static void allCounts() {
+        for (int fan = 2; fan <= 8; fan++) {
+            CairnIndex index = new CairnIndex();
+            PlainIndex plain = new PlainIndex();
+            index.addLayer(false);
+            plain.addLayer(false);
+            index.setSize(0, fan);
+            plain.setSize(0, fan);
+            for (int i = 0; i < 80; i++) {
+                int x = i * 389 % 824;
+                int y = i * i * 31 % 824;
+                int w = i * 17 % 201;
+                int h = i * 53 % 201;
+                index.addBox(0, x, y, w, h, 0);
+                plain.addBox(0, x, y, w, h, 0);
+                Checks.due("pack of " + (i + 1) + " by " + fan, plain.pack(0), index.pack(0));
+                if (i % 7 == 2) {
+                    sameTree(index, plain);
+                }
+            }
+            Checks.due("levels of 80 by " + fan, plain.depth(0), index.depth(0));
+            sameTree(index, plain);
+        }
+    }
+
+    private static void sameTree(CairnIndex index, PlainIndex plain) {
+        for (int level = 0; level < 8; level++) {
+            Checks.due("level(" + level + ")", plain.level(0, level), index.level(0, level));
+            for (int node = 0; node < plain.level(0, level); node++) {
+                int[] due = new int[5];
+                for (int what = 0; what <= 4; what++) {
+                    due[what] = plain.node(0, level, node, what);
+                }
+                dueNode(index, level, node, due);
+            }
+        }
+    }
+
+    public static void main(String[] args) {
+        quarters();
+        smallestSquares();
+        wrongLeaf();
+        packedTree();
+        middlesAndTies();
+        wrongNodes();
+        allCounts();
+        Checks.end();
+    }
+}
