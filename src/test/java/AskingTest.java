@@ -88,6 +88,8 @@ public final class AskingTest {
             Checks.due("far " + k, dueFar[k - 1], index.far(0, 0, 0, k));
         }
         Checks.due("the 80th", -1, index.nearest(0, 0, 0, 80));
+        Checks.due("thing 0 from where it is", 0, index.nearest(0, 10, 0, 1));
+        Checks.due("so near", 0, index.far(0, 10, 0, 1));
         index.remove(0);
         Checks.due("one is gone", 1, index.nearest(0, 0, 0, 2));
         Checks.due("across the map", 1023 * 1023 + 1013 * 1013, index.far(0, 1023, 1023, 2));
@@ -108,6 +110,7 @@ public final class AskingTest {
         index.setSize(0, 1);
         index.addPoint(0, 500, 111, 0);
         index.addPoint(0, 900, 900, 0);
+        Checks.due("thing 0 from where it is", 2, index.visitedFor(0, 500, 111, 1));
         Checks.due("within 11 * 11", 2, index.visitedFor(0, 500, 100, 1));
         index.move(0, 500, 112);
         Checks.due("within 12 * 12", 3, index.visitedFor(0, 500, 100, 1));
@@ -158,6 +161,81 @@ public final class AskingTest {
         Checks.due("boxes and points", 6, index.pairs(1, 0, 3000000));
         index.remove(1);
         Checks.due("one is gone", 1, index.pairs(0, 0, 3000000));
+    }
+
+    private static void longBoxes() {
+        CairnIndex index = twoLayers();
+        index.addBox(1, 0, 0, 100, 5, 0);
+        index.addBox(1, 110, 0, 3, 200, 0);
+        index.addBox(1, 0, 10, 7, 150, 0);
+        Checks.due("within 24", 0, index.pairs(1, 1, 24));
+        Checks.due("0 and 2 are 5 apart", 1, index.pairs(1, 1, 25));
+        Checks.due("0 and 1 are 10 apart", 1, index.pairs(1, 1, 99));
+        Checks.due("so two pairs", 2, index.pairs(1, 1, 100));
+        Checks.due("1 and 2 are 103 apart", 2, index.pairs(1, 1, 103 * 103 - 1));
+        Checks.due("so three pairs", 3, index.pairs(1, 1, 103 * 103));
+        Checks.due("greatest", 2, index.greatest(1, 25));
+        Checks.due("clusters", 2, index.clusters(1, 25));
+    }
+
+    /** Trees of other depths, against each other, for all numbers at which something changes. */
+    private static void deepPairs() {
+        CairnIndex index = new CairnIndex();
+        PlainIndex plain = new PlainIndex();
+        boolean[] kinds = {true, false, true, false};
+        for (int layer = 0; layer < 4; layer++) {
+            index.addLayer(kinds[layer]);
+            plain.addLayer(kinds[layer]);
+            index.setSize(layer, 2 + layer);
+            plain.setSize(layer, 2 + layer);
+            for (int i = 0; i < 20; i++) {
+                int x = i * i * (7 + layer) % 900;
+                int y = i * 67 % (300 + 50 * layer);
+                if (kinds[layer]) {
+                    index.addPoint(layer, x, y, 0);
+                    plain.addPoint(layer, x, y, 0);
+                } else {
+                    index.addBox(layer, x, y, 3 * i, 20 - i, 0);
+                    plain.addBox(layer, x, y, 3 * i, 20 - i, 0);
+                }
+            }
+        }
+        index.pack(1);
+        plain.pack(1);
+        index.pack(3);
+        plain.pack(3);
+        for (int one = 0; one < 4; one++) {
+            for (int other = 0; other < 4; other++) {
+                for (int far : new int[] {0, 1, 2, 100, 400, 2500, 10000, 40000, 250000, 3000000}) {
+                    String told = one + ", " + other + ", " + far;
+                    Checks.due("visitedPairs " + told, plain.visitedPairs(one, other, far), index.visitedPairs(one, other, far));
+                    Checks.due("pairs " + told, plain.pairs(one, other, far), index.pairs(one, other, far));
+                }
+            }
+        }
+    }
+
+    /** Squares down to the side 1, in layers that meet in some of them only. */
+    private static void deepestPairs() {
+        CairnIndex index = new CairnIndex();
+        PlainIndex plain = new PlainIndex();
+        for (int layer = 0; layer < 2; layer++) {
+            index.addLayer(true);
+            plain.addLayer(true);
+            index.setSize(layer, 1);
+            plain.setSize(layer, 1);
+            for (int i = 0; i < 20; i++) {
+                int x = (i * 128 + 30) % 1024 + layer * 40;
+                int y = i / 8 * 128 + 30 + layer * 7;
+                index.addRow(layer, x, y, 1, 0, 2);
+                plain.addRow(layer, x, y, 1, 0, 2);
+            }
+        }
+        Checks.due("depth", 11, index.depth(0));
+        for (int far : new int[] {0, 1, 50, 900, 20000, 3000000}) {
+            Checks.due("visitedPairs within " + far, plain.visitedPairs(0, 1, far), index.visitedPairs(0, 1, far));
+            Checks.due("visitedPairs of one within " + far, plain.visitedPairs(0, 0, far), index.visitedPairs(0, 0, far));
+        }
     }
 
     private static void visitedPairs() {
@@ -266,6 +344,10 @@ public final class AskingTest {
             index.corner(c[0], c[1]);
         }
         Checks.due("area of one that crosses itself", 0, index.area());
+        fence(index, 100, 200, 400, 200, 400, 700, 90, 800);
+        Checks.due("area of four corners", 335000, index.area());
+        fence(index, 100, 200, 400, 200, 400, 700);
+        Checks.due("area of three, after four", 150000, index.area());
     }
 
     private static void fence(CairnIndex index, int... places) {
@@ -285,13 +367,25 @@ public final class AskingTest {
     private static void pointsInFence() {
         int[] square = {10, 10, 20, 10, 20, 20, 10, 20};
         int[][] in = {{10, 10}, {20, 20}, {15, 10}, {10, 15}, {20, 15}, {15, 20}, {15, 15}, {11, 19}};
-        int[][] out = {{9, 10}, {21, 10}, {9, 15}, {21, 15}, {15, 9}, {15, 21}, {9, 20}, {0, 0}, {1023, 15}};
+        int[][] out = {{9, 10}, {21, 10}, {9, 15}, {21, 15}, {15, 9}, {15, 21}, {9, 20}, {0, 0}, {1023, 15},
+            {20, 21}, {20, 9}, {10, 21}, {10, 9}, {20, 30}, {10, 40}, {10, 0}};
         for (int[] p : in) {
             duePoint(p[0], p[1], true, square);
         }
         for (int[] p : out) {
             duePoint(p[0], p[1], false, square);
         }
+        int[] tall = {10, 100, 20, 100, 20, 300, 10, 300};
+        duePoint(10, 200, true, tall);
+        duePoint(20, 300, true, tall);
+        duePoint(10, 301, false, tall);
+        duePoint(20, 301, false, tall);
+        duePoint(10, 99, false, tall);
+        duePoint(20, 50, false, tall);
+        int[] broad = {100, 10, 300, 10, 300, 20, 100, 20};
+        duePoint(200, 20, true, broad);
+        duePoint(99, 20, false, broad);
+        duePoint(301, 10, false, broad);
         int[] diamond = {150, 100, 200, 150, 150, 200, 100, 150};
         duePoint(50, 150, false, diamond);
         duePoint(120, 150, true, diamond);
@@ -389,7 +483,10 @@ public final class AskingTest {
         visitedFor();
         wrongNearest();
         pairs();
+        longBoxes();
         visitedPairs();
+        deepPairs();
+        deepestPairs();
         clusters();
         wrongFar();
         corners();

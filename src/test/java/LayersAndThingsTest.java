@@ -112,7 +112,7 @@ public final class LayersAndThingsTest {
         int most = Integer.MAX_VALUE;
         int[][] wrong = {{-1, 0, 0, 0, 0}, {1024, 0, 0, 0, 0}, {0, -1, 0, 0, 0}, {0, 1024, 0, 0, 0}, {0, 0, -1, 0, 0},
             {0, 0, 201, 0, 0}, {0, 0, 0, -1, 0}, {0, 0, 0, 201, 0}, {824, 0, 200, 0, 0}, {0, 824, 0, 200, 0},
-            {1023, 0, 1, 0, 0}, {0, 1023, 0, 1, 0}, {0, 0, 0, 0, -1}, {0, 0, 0, 0, 10}, {1, 0, most, 0, 0},
+            {1023, 0, 1, 0, 0}, {0, 1023, 0, 1, 0}, {-1, 0, 5, 5, 0}, {0, -1, 5, 5, 0}, {0, 0, 0, 0, -1}, {0, 0, 0, 0, 10}, {1, 0, most, 0, 0},
             {0, 1, 0, most, 0}, {most, 0, 1, 0, 0}};
         for (int[] w : wrong) {
             Checks.badArgument(index, "addBox(1, " + java.util.Arrays.toString(w) + ")",
@@ -187,6 +187,8 @@ public final class LayersAndThingsTest {
         Checks.badArgument(index, "x + w 1024", () -> index.move(1, 1014, 0));
         Checks.badArgument(index, "y + h 1024", () -> index.move(1, 0, 1004));
         Checks.badArgument(index, "x -1", () -> index.move(0, -1, 0));
+        Checks.badArgument(index, "x -1 of a box", () -> index.move(1, -1, 0));
+        Checks.badArgument(index, "y -1 of a box", () -> index.move(1, 0, -1));
         Checks.badArgument(index, "x 1024", () -> index.move(0, 1024, 0));
         Checks.badArgument(index, "y -1", () -> index.move(0, 0, -1));
         Checks.badArgument(index, "y 1024", () -> index.move(0, 0, 1024));

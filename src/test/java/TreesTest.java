@@ -39,6 +39,7 @@ public final class TreesTest {
     private static void quarters() {
         CairnIndex index = points(4);
         dueTree(index, 1, 1);
+        Checks.due("the root reaches up to 1023", 1, index.visited(0, 1023, 1023, 0, 0));
         dueLeaf(index, 1023, 0, 0, 0, 1024, 0, 0);
         index.addPoint(0, 0, 0, 0);
         index.addPoint(0, 600, 0, 0);
@@ -66,6 +67,9 @@ public final class TreesTest {
         CairnIndex index = points(4);
         index.addRow(0, 5, 5, 0, 0, 5);
         dueTree(index, 41, 11);
+        // The root with itself, and on each of ten levels four by four: squares side by side are 1
+        // from each other, so within 0 one goes down from the one that is split with itself alone.
+        Checks.due("pairs down to the smallest squares", 1 + 10 * 16, index.visitedPairs(0, 0, 0));
         dueLeaf(index, 5, 5, 5, 5, 1, 5, 10);
         dueLeaf(index, 4, 5, 4, 5, 1, 0, 10);
         dueLeaf(index, 6, 5, 6, 4, 2, 0, 9);
@@ -80,6 +84,49 @@ public final class TreesTest {
         borders.addPoint(0, 510, 511, 0);
         dueTree(borders, 41, 11);
         dueLeaf(borders, 511, 511, 511, 511, 1, 1, 10);
+    }
+
+    private static void squaresAside() {
+        CairnIndex index = points(1);
+        index.addPoint(0, 700, 100, 0);
+        index.addPoint(0, 700, 140, 0);
+        index.addPoint(0, 100, 900, 0);
+        // (700, 100) and (700, 140) share the squares at (512, 0) with the sides 512 and 256,
+        // and are told apart by y = 128.
+        dueTree(index, 13, 4);
+        dueLeaf(index, 700, 100, 640, 0, 128, 1, 3);
+        dueLeaf(index, 700, 140, 640, 128, 128, 1, 3);
+        dueLeaf(index, 512, 0, 512, 0, 128, 0, 3);
+        dueLeaf(index, 767, 256, 512, 256, 256, 0, 2);
+        dueLeaf(index, 768, 255, 768, 0, 256, 0, 2);
+        dueLeaf(index, 0, 700, 0, 512, 512, 1, 1);
+        dueLeaf(index, 700, 700, 512, 512, 512, 0, 1);
+        Checks.due("visited in the first of them", 4, index.visited(0, 639, 127, 0, 0));
+        Checks.due("visited in two of them", 5, index.visited(0, 639, 127, 1, 0));
+        Checks.due("visited in the other two", 5, index.visited(0, 639, 127, 0, 1));
+    }
+
+    /** 40 pairs of points side by side, told apart by the smallest squares alone: no tree has more nodes. */
+    private static void mostNodes() {
+        CairnIndex index = points(1);
+        int pairs = 0;
+        for (int i = 0; i < 64; i++) {
+            int column = i % 8;
+            int row = i / 8;
+            if ((column + row) % 2 == 0 || i < 16) {
+                index.addPoint(0, column * 128 + 30, row * 128 + 30, 0);
+                index.addPoint(0, column * 128 + 31, row * 128 + 30, 0);
+                pairs++;
+            }
+        }
+        Checks.due("pairs", 40, pairs);
+        dueTree(index, 1205, 11);
+        dueLeaf(index, 31, 30, 31, 30, 1, 1, 10);
+        dueLeaf(index, 926, 926, 926, 926, 1, 1, 10);
+        dueLeaf(index, 671, 926, 671, 926, 1, 1, 10);
+        dueLeaf(index, 670, 927, 670, 927, 1, 0, 10);
+        Checks.due("all are visited", 1205, index.visited(0, 0, 0, 1023, 1023));
+        Checks.dueExactly("80 points in 904 leaves", 80.0 / 904.0, index.fullness(0));
     }
 
     private static void wrongLeaf() {
@@ -123,6 +170,11 @@ public final class TreesTest {
     }
 
     private static void middlesAndTies() {
+        // Numbers against the order by x: 4, 3, 2, 1 make the first slice.
+        CairnIndex backwards = boxes(2, new int[][] {{50, 0, 0, 0}, {40, 9, 0, 0}, {30, 8, 0, 0}, {20, 7, 0, 0}, {10, 6, 0, 0}});
+        dueNode(backwards, 0, 0, 10, 6, 10, 1, 2);
+        dueNode(backwards, 0, 1, 30, 8, 10, 1, 2);
+        dueNode(backwards, 0, 2, 50, 0, 0, 0, 1);
         // The same x: the smaller numbers make the first slice, and y puts them in order.
         CairnIndex column = boxes(2, new int[][] {{7, 50, 0, 0}, {7, 40, 0, 0}, {7, 30, 0, 0}, {7, 20, 0, 0}, {7, 10, 0, 0}});
         dueNode(column, 0, 0, 7, 20, 0, 10, 2);
@@ -210,6 +262,8 @@ public final class TreesTest {
     public static void main(String[] args) {
         quarters();
         smallestSquares();
+        squaresAside();
+        mostNodes();
         wrongLeaf();
         packedTree();
         middlesAndTies();

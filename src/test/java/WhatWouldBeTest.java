@@ -110,10 +110,89 @@ public final class WhatWouldBeTest {
         Checks.due("once more", digestOf(all), index.digest());
     }
 
+    private static long digestByCalls(CairnIndex index, int layers, java.util.Set<Integer> gone) {
+        java.util.List<Long> row = new java.util.ArrayList<>();
+        row.add((long) index.things());
+        for (int thing = 0; thing < index.things(); thing++) {
+            if (!gone.contains(thing)) {
+                row.add((long) thing);
+                for (int what = 0; what <= 6; what++) {
+                    row.add((long) index.of(thing, what));
+                }
+            }
+        }
+        for (int l = 0; l < layers; l++) {
+            int[] told = {index.size(l), index.nodes(l), index.depth(l), index.inBox(l, 100, 100, 400, 300),
+                index.visited(l, 100, 100, 400, 300), index.nearest(l, 512, 512, 3), index.far(l, 512, 512, 3),
+                index.visitedFor(l, 512, 512, 3), index.clusters(l, 2500), index.greatest(l, 2500),
+                index.nodesWith(l, 3)};
+            for (int number : told) {
+                row.add((long) number);
+            }
+        }
+        for (int l = 0; l + 1 < layers; l++) {
+            row.add((long) index.visitedPairs(l, l + 1, 900));
+        }
+        row.add((long) index.area());
+        return digestOf(row.stream().mapToLong(Long::longValue).toArray());
+    }
+
+    /** Things just at and just behind each number that digest() asks with. */
+    private static void digestAtTheEdges() {
+        int[][] places = {{100, 100}, {100, 400}, {500, 100}, {500, 400}, {99, 250}, {501, 250}, {300, 99}, {300, 401},
+            {512, 512}, {512, 513}, {513, 512}, {512, 511}, {511, 512}, {562, 512}, {482, 512}, {452, 512}, {512, 563}};
+        for (int from = 0; from < places.length; from++) {
+            for (int count = 1; from + count <= places.length && count <= 6; count++) {
+                CairnIndex index = new CairnIndex();
+                index.addLayer(true);
+                index.addLayer(false);
+                index.addLayer(true);
+                index.addLayer(false);
+                for (int i = from; i < from + count; i++) {
+                    index.addPoint(0, places[i][0], places[i][1], 0);
+                    index.addBox(1, places[i][0], places[i][1], i % 2, i % 3, 1);
+                    index.addPoint(2, places[i][0] * 2 % 1024, places[i][1], 2);
+                    index.addBox(3, places[i][0], places[i][1] - 49, 0, 0, 3);
+                }
+                index.setSize(0, 1);
+                index.setSize(1, 2);
+                index.setSize(3, 2);
+                index.pack(1);
+                index.pack(3);
+                index.addBox(3, 5, 5, 5, 5, 5);
+                index.remove(0);
+                String told = "digest of " + count + " from " + from;
+                Checks.due(told, digestByCalls(index, 4, java.util.Set.of(0)), index.digest());
+            }
+        }
+    }
+
+    /** Single boxes as roots of two layers with things below them, 30 and 31 apart: 900 is told apart from 901. */
+    private static void digestOfPairs() {
+        for (int apart = 28; apart <= 33; apart++) {
+            for (int up = 0; up <= 1; up++) {
+                CairnIndex index = new CairnIndex();
+                index.addLayer(false);
+                index.addLayer(false);
+                for (int i = 0; i < 5; i++) {
+                    index.addBox(0, 100 + i, 100, 0, 0, 0);
+                    index.addBox(1, 104 + apart + i, 100 + up, 0, 0, 0);
+                }
+                index.pack(0);
+                index.pack(1);
+                boolean within = apart * apart + up * up <= 900;
+                Checks.due("visitedPairs of 900", within ? 5 : 1, index.visitedPairs(0, 1, 900));
+                Checks.due("digest of " + apart, digestByCalls(index, 2, java.util.Set.of()), index.digest());
+            }
+        }
+    }
+
     public static void main(String[] args) {
         nodesWith();
         visitedPacked();
         digest();
+        digestAtTheEdges();
+        digestOfPairs();
         Checks.end();
     }
 }
