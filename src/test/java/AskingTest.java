@@ -112,6 +112,8 @@ public final class AskingTest {
         index.addPoint(0, 900, 900, 0);
         Checks.due("thing 0 from where it is", 2, index.visitedFor(0, 500, 111, 1));
         Checks.due("within 11 * 11", 2, index.visitedFor(0, 500, 100, 1));
+        index.move(0, 511, 511);
+        Checks.due("in its quarter alone", 2, index.visitedFor(0, 511, 511, 1));
         index.move(0, 500, 112);
         Checks.due("within 12 * 12", 3, index.visitedFor(0, 500, 100, 1));
         Checks.due("all without the third", 5, index.visitedFor(0, 500, 100, 3));
