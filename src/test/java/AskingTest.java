@@ -2,16 +2,8 @@
 public final class AskingTest {
     private static final int MOST = Integer.MAX_VALUE;
 
-    /** Layer 0 of points, layer 1 of boxes. */
-    private static CairnIndex twoLayers() {
-        CairnIndex index = new CairnIndex();
-        index.addLayer(true);
-        index.addLayer(false);
-        return index;
-    }
-
     private static void inBox() {
-        CairnIndex index = twoLayers();
+        CairnIndex index = Made.twoEmpty();
         index.addPoint(0, 100, 100, 0);
         index.addPoint(0, 110, 100, 0);
         index.addBox(1, 10, 10, 5, 5, 0);
@@ -34,7 +26,7 @@ public final class AskingTest {
     }
 
     private static void visited() {
-        CairnIndex index = twoLayers();
+        CairnIndex index = Made.twoEmpty();
         Checks.due("the root of points", 1, index.visited(0, 0, 0, 0, 0));
         Checks.due("no root of boxes", 0, index.visited(1, 0, 0, 1023, 1023));
         index.setSize(0, 1);
@@ -61,7 +53,7 @@ public final class AskingTest {
     }
 
     private static void wrongBoxes() {
-        CairnIndex index = twoLayers();
+        CairnIndex index = Made.twoEmpty();
         int[][] wrong = {{-1, 0, 0, 0}, {1024, 0, 0, 0}, {0, -1, 0, 0}, {0, 1024, 0, 0},
             {0, 0, -1, 0}, {0, 0, 1024, 0}, {0, 0, 0, -1}, {0, 0, 0, 1024}, {0, 0, MOST, 0}};
         for (int[] w : wrong) {
@@ -74,7 +66,7 @@ public final class AskingTest {
     }
 
     private static void nearest() {
-        CairnIndex index = twoLayers();
+        CairnIndex index = Made.twoEmpty();
         Checks.due("without things", -1, index.nearest(0, 0, 0, 1));
         Checks.due("far without things", -1, index.far(0, 0, 0, 1));
         index.addPoint(0, 10, 0, 0);
@@ -104,7 +96,7 @@ public final class AskingTest {
     }
 
     private static void visitedFor() {
-        CairnIndex index = twoLayers();
+        CairnIndex index = Made.twoEmpty();
         Checks.due("all without things", 1, index.visitedFor(0, 0, 0, 1));
         Checks.due("none without nodes", 0, index.visitedFor(1, 0, 0, 1));
         index.setSize(0, 1);
@@ -132,7 +124,7 @@ public final class AskingTest {
     }
 
     private static void wrongNearest() {
-        CairnIndex index = twoLayers();
+        CairnIndex index = Made.twoEmpty();
         int[][] wrong = {{-1, 0, 1}, {1024, 0, 1}, {0, -1, 1}, {0, 1024, 1}, {0, 0, 0}, {0, 0, 81}, {0, 0, -1}};
         for (int[] w : wrong) {
             String told = java.util.Arrays.toString(w);
@@ -146,7 +138,7 @@ public final class AskingTest {
     }
 
     private static void pairs() {
-        CairnIndex index = twoLayers();
+        CairnIndex index = Made.twoEmpty();
         Checks.due("without things", 0, index.pairs(0, 1, 3000000));
         index.addPoint(0, 0, 0, 0);
         index.addPoint(0, 3, 4, 0);
@@ -166,7 +158,7 @@ public final class AskingTest {
     }
 
     private static void longBoxes() {
-        CairnIndex index = twoLayers();
+        CairnIndex index = Made.twoEmpty();
         index.addBox(1, 0, 0, 100, 5, 0);
         index.addBox(1, 110, 0, 3, 200, 0);
         index.addBox(1, 0, 10, 7, 150, 0);
@@ -241,7 +233,7 @@ public final class AskingTest {
     }
 
     private static void visitedPairs() {
-        CairnIndex index = twoLayers();
+        CairnIndex index = Made.twoEmpty();
         Checks.due("no root of boxes", 0, index.visitedPairs(0, 1, 0));
         Checks.due("no root at all", 0, index.visitedPairs(1, 1, 0));
         Checks.due("both roots are leaves", 1, index.visitedPairs(0, 0, 0));
@@ -274,7 +266,7 @@ public final class AskingTest {
     }
 
     private static void clusters() {
-        CairnIndex index = twoLayers();
+        CairnIndex index = Made.twoEmpty();
         Checks.due("without things", 0, index.clusters(0, 0));
         Checks.due("greatest without things", 0, index.greatest(0, 3000000));
         index.addRow(0, 0, 0, 3, 4, 4);
@@ -300,7 +292,7 @@ public final class AskingTest {
     }
 
     private static void wrongFar() {
-        CairnIndex index = twoLayers();
+        CairnIndex index = Made.twoEmpty();
         for (int far : new int[] {-1, 3000001, Integer.MIN_VALUE, MOST}) {
             Checks.badArgument(index, "pairs", () -> index.pairs(0, 1, far));
             Checks.badArgument(index, "visitedPairs", () -> index.visitedPairs(0, 1, far));
@@ -316,7 +308,7 @@ public final class AskingTest {
     }
 
     private static void corners() {
-        CairnIndex index = twoLayers();
+        CairnIndex index = Made.twoEmpty();
         Checks.badArgument(index, "x -1", () -> index.corner(-1, 0));
         Checks.badArgument(index, "x 1024", () -> index.corner(1024, 0));
         Checks.badArgument(index, "y -1", () -> index.corner(0, -1));
@@ -360,7 +352,7 @@ public final class AskingTest {
     }
 
     private static void duePoint(int x, int y, boolean due, int... places) {
-        CairnIndex index = twoLayers();
+        CairnIndex index = Made.twoEmpty();
         fence(index, places);
         index.addPoint(0, x, y, 0);
         Checks.due("the point " + x + ", " + y + " in the fence", due ? 1 : 0, index.inFence(0, -1));
@@ -419,7 +411,7 @@ public final class AskingTest {
     }
 
     private static void dueBox(int x, int y, int w, int h, boolean due) {
-        CairnIndex index = twoLayers();
+        CairnIndex index = Made.twoEmpty();
         fence(index, 10, 10, 20, 10, 20, 20, 10, 20);
         index.addBox(1, x, y, w, h, 0);
         Checks.due("the box " + x + ", " + y + ", " + w + ", " + h + " in the fence", due ? 1 : 0, index.inFence(1, -1));
@@ -438,7 +430,7 @@ public final class AskingTest {
         dueBox(0, 0, 30, 30, true);
         dueBox(11, 11, 200, 200, false);
 
-        CairnIndex index = twoLayers();
+        CairnIndex index = Made.twoEmpty();
         index.addRow(0, 10, 10, 1, 1, 20);
         Checks.badState(index, "no fence", () -> index.inFence(0, -1));
         fence(index, 10, 10, 20, 10);
@@ -456,7 +448,7 @@ public final class AskingTest {
     }
 
     private static void fullness() {
-        CairnIndex index = twoLayers();
+        CairnIndex index = Made.twoEmpty();
         Checks.dueExactly("an empty root", 0.0, index.fullness(0));
         Checks.dueExactly("without leaves", 0.0, index.fullness(1));
         index.addRow(0, 0, 0, 200, 200, 5);

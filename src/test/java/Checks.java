@@ -2,6 +2,7 @@
 final class Checks {
     private static int wrong = 0;
     private static int made = 0;
+    private static String sentence = "";
 
     interface Call {
         double answer();
@@ -10,28 +11,29 @@ final class Checks {
     private Checks() {
     }
 
-    static void due(String call, long want, long got) {
-        made++;
-        if (got != want) {
-            wrong++;
-            System.out.println(call + " answered " + got + ", due is " + want);
-        }
+    /** Quotes the sentence of the document that the next checks hold to: it is told with each that fails. */
+    static void says(String words) {
+        sentence = "\"" + words + "\": ";
     }
 
-    static void dueExactly(String call, double want, double got) {
-        made++;
-        if (Double.compare(got, want) != 0) {
-            wrong++;
-            System.out.println(call + " answered " + got + ", due is " + want);
-        }
-    }
-
-    static void holds(String what, boolean so) {
+    private static void count(boolean so, String told) {
         made++;
         if (!so) {
             wrong++;
-            System.out.println("does not hold: " + what);
+            System.out.println(sentence + told);
         }
+    }
+
+    static void due(String call, long want, long got) {
+        count(got == want, call + " answered " + got + ", due is " + want);
+    }
+
+    static void dueExactly(String call, double want, double got) {
+        count(Double.compare(got, want) == 0, call + " answered " + got + ", due is " + want);
+    }
+
+    static void holds(String what, boolean so) {
+        count(so, "does not hold: " + what);
     }
 
     /** The call must throw just this, and leave every answer of the object as it was. */

@@ -1,13 +1,5 @@
 /** Promises 1 to 12. */
 public final class LayersAndThingsTest {
-    /** Layer 0 of points, layer 1 of boxes. */
-    private static CairnIndex twoLayers() {
-        CairnIndex index = new CairnIndex();
-        index.addLayer(true);
-        index.addLayer(false);
-        return index;
-    }
-
     private static void fill(CairnIndex index, int until) {
         while (index.things() < until) {
             index.addPoint(0, index.things() * 7, index.things() * 3, 1);
@@ -38,7 +30,7 @@ public final class LayersAndThingsTest {
     }
 
     private static void setSize() {
-        CairnIndex index = twoLayers();
+        CairnIndex index = Made.twoEmpty();
         Checks.due("CAP at first", 4, index.setSize(0, 1));
         Checks.due("CAP before", 1, index.setSize(0, 8));
         Checks.due("FAN at first", 4, index.setSize(1, 2));
@@ -68,7 +60,7 @@ public final class LayersAndThingsTest {
     }
 
     private static void addPoint() {
-        CairnIndex index = twoLayers();
+        CairnIndex index = Made.twoEmpty();
         Checks.due("the first", 0, index.addPoint(0, 0, 1023, 0));
         Checks.due("of another layer", 1, index.addBox(1, 0, 0, 0, 0, 0));
         Checks.due("over all layers", 2, index.addPoint(0, 1023, 0, 9));
@@ -87,7 +79,7 @@ public final class LayersAndThingsTest {
         Checks.badArgument(index, "tag -1", () -> index.addPoint(0, 0, 0, -1));
         Checks.badArgument(index, "tag 10", () -> index.addPoint(0, 0, 0, 10));
 
-        CairnIndex full = twoLayers();
+        CairnIndex full = Made.twoEmpty();
         fill(full, 79);
         Checks.due("the last one", 79, full.addPoint(0, 5, 5, 5));
         full.remove(3);
@@ -98,7 +90,7 @@ public final class LayersAndThingsTest {
     }
 
     private static void addBox() {
-        CairnIndex index = twoLayers();
+        CairnIndex index = Made.twoEmpty();
         Checks.due("the first", 0, index.addBox(1, 823, 823, 200, 200, 9));
         Checks.due("without width", 1, index.addBox(1, 1023, 1023, 0, 0, 0));
         Checks.due("of some size", 2, index.addBox(1, 10, 20, 30, 40, 5));
@@ -119,7 +111,7 @@ public final class LayersAndThingsTest {
                     () -> index.addBox(1, w[0], w[1], w[2], w[3], w[4]));
         }
 
-        CairnIndex full = twoLayers();
+        CairnIndex full = Made.twoEmpty();
         fill(full, 80);
         Checks.badState(full, "one more than 80", () -> full.addBox(1, 0, 0, 0, 0, 0));
         Checks.badArgument(full, "a wrong tag, ahead of that", () -> full.addBox(1, 0, 0, 0, 0, 10));
@@ -127,7 +119,7 @@ public final class LayersAndThingsTest {
     }
 
     private static void addRow() {
-        CairnIndex index = twoLayers();
+        CairnIndex index = Made.twoEmpty();
         Checks.due("a row", 0, index.addRow(0, 1020, 5, 3, 1023, 12));
         int[] xs = {1020, 1023, 2, 5};
         int[] ys = {5, 4, 3, 2};
@@ -161,7 +153,7 @@ public final class LayersAndThingsTest {
     }
 
     private static void move() {
-        CairnIndex index = twoLayers();
+        CairnIndex index = Made.twoEmpty();
         index.addPoint(0, 100, 100, 7);
         index.addBox(1, 100, 100, 10, 20, 8);
         Checks.due("a point", 25, index.move(0, 103, 104));
@@ -203,7 +195,7 @@ public final class LayersAndThingsTest {
     }
 
     private static void remove() {
-        CairnIndex index = twoLayers();
+        CairnIndex index = Made.twoEmpty();
         index.addRow(0, 0, 0, 300, 300, 5);
         index.addBox(1, 0, 0, 10, 10, 0);
         index.addBox(1, 50, 50, 10, 10, 0);
@@ -227,7 +219,7 @@ public final class LayersAndThingsTest {
     }
 
     private static void pack() {
-        CairnIndex index = twoLayers();
+        CairnIndex index = Made.twoEmpty();
         Checks.due("pack nothing", 0, index.pack(1));
         for (int i = 0; i < 4; i++) {
             index.addBox(1, 100 * i, 0, 10, 10, 0);
@@ -247,7 +239,7 @@ public final class LayersAndThingsTest {
     }
 
     private static void thingsSizeAndOf() {
-        CairnIndex index = twoLayers();
+        CairnIndex index = Made.twoEmpty();
         index.addRow(0, 0, 0, 1, 1, 3);
         index.addBox(1, 0, 0, 1, 2, 3);
         Checks.due("things", 4, index.things());

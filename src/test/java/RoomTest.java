@@ -6,11 +6,7 @@ public final class RoomTest {
     private static final long MOST_BYTES_A_CALL = 64;
 
     private static CairnIndex crowded() {
-        CairnIndex index = new CairnIndex();
-        index.addLayer(true);
-        index.addLayer(false);
-        index.addLayer(true);
-        index.addLayer(false);
+        CairnIndex index = Made.empty(true, false, true, false);
         index.setSize(0, 1);
         index.setSize(1, 2);
         for (int i = 0; i < 40; i++) {

@@ -2,9 +2,7 @@
 public final class WhatWouldBeTest {
     /** Layer 0 with five points, layer 1 with five boxes, all LOOSE. */
     private static CairnIndex twoLayers() {
-        CairnIndex index = new CairnIndex();
-        index.addLayer(true);
-        index.addLayer(false);
+        CairnIndex index = Made.twoEmpty();
         index.addRow(0, 0, 0, 255, 255, 5);
         for (int i = 0; i < 5; i++) {
             index.addBox(1, 100 * i, 0, 10, 10, i);
@@ -143,11 +141,7 @@ public final class WhatWouldBeTest {
             {512, 512}, {512, 513}, {513, 512}, {512, 511}, {511, 512}, {562, 512}, {482, 512}, {452, 512}, {512, 563}};
         for (int from = 0; from < places.length; from++) {
             for (int count = 1; from + count <= places.length && count <= 6; count++) {
-                CairnIndex index = new CairnIndex();
-                index.addLayer(true);
-                index.addLayer(false);
-                index.addLayer(true);
-                index.addLayer(false);
+                CairnIndex index = Made.empty(true, false, true, false);
                 for (int i = from; i < from + count; i++) {
                     index.addPoint(0, places[i][0], places[i][1], 0);
                     index.addBox(1, places[i][0], places[i][1], i % 2, i % 3, 1);
