@@ -166,6 +166,9 @@ public final class LimitsTest {
 
     private static void boxesThatCome() {
         says(5, "Throws IllegalArgumentException if w or h is not 0 to 200");
+        // Amid the map too, where x + w and y + h are on it.
+        from0To(200, "w, amid the map", (i, w) -> i.addBox(B, 500, 500, w, 0, 0));
+        from0To(200, "h, amid the map", (i, h) -> i.addBox(B, 500, 500, 0, h, 0));
         from0To(200, "w", (i, w) -> i.addBox(B, 0, 0, w, 0, 0));
         from0To(200, "w, with the greatest h", (i, w) -> i.addBox(B, 0, 0, w, 200, 0));
         from0To(200, "h", (i, h) -> i.addBox(B, 0, 0, 0, h, 0));
